@@ -887,7 +887,7 @@ public final class SecondHome {
 
         private int keeperWish(int r) {
             int friend = friends[r];
-            if (!has(friend) || isHome(friend)) {
+            if (!has(friend) || homes[friend] >= 0) {
                 return paces[r];
             }
             return Math.max(1, Math.min(paces[r], yards[friend] - yards[r]));

@@ -55,7 +55,7 @@ public final class HowToRunTest {
         SecondHome far = track(300, 0, 0, 4, 0, 0, 12, 999);
         Check.due("200 at most", far.start(0), 200);
         Check.due("204 would do", track(301, 0, 0, 4, 0, 0, 12, 999).start(0), Check.NONE);
-        Check.due("below LENGTH", track(10, 0, 0, 1, 0, 0, 12, 999).start(0), Check.NONE);
+        Check.due("below LENGTH", track(10, 0, 0, 1, 0, 0, 10, 999).start(0), Check.NONE);
         SecondHome ten = track(11, 0, 0, 1, 0, 0, 10, 999);
         Check.due("10 of 11", ten.start(0), 10);
         ten.set(0, 4, 3);
@@ -93,6 +93,9 @@ public final class HowToRunTest {
         SecondHome last = track(60, 0, 0, 1, 0, 0, 1, 0, 0, 4, 99);
         last.set(0, 4, 59);
         Check.due("none", last.deal(), Check.NONE);
+        SecondHome later = track(60, 1, 0, 5, 99, 0, 4, 99, 0, 6, 99);
+        later.set(0, 4, 59);
+        Check.due("1 and 2, whatever pace the first has", later.deal(), 12);
         Check.due("none if all are even", track(60, 1, 0, 4, 99, 0, 4, 99, 0, 4, 99).deal(), Check.NONE);
         Check.due("nobody has it now", track(60, 1, 0, 4, 99).deal(), Check.NONE);
         Check.due("nobody is there", new SecondHome().deal(), Check.NONE);
@@ -105,6 +108,9 @@ public final class HowToRunTest {
         Check.due("the fastest is first", track(40, 0, 0, 4, 99, 0, 9, 99).fair(), 0);
         Check.due("the fastest isn't second", track(40, 1, 0, 4, 99, 0, 9, 99).fair(), Check.NONE);
         Check.due("a HOLDER is second with LEAST PACE 1", track(40, 1, 0, 4, 99, 1, 6, 99).fair(), 1);
+        SecondHome five = track(40, 1, 0, 1, 999, 1, 6, 999);
+        five.set(0, 4, 12);
+        Check.due("5 at most", five.fair(), 5);
         Check.due("of several the least RUNNER", track(40, 0, 0, 9, 99, 0, 9, 99).fair(), 0);
         Check.due("so the second doesn't go to it", track(40, 1, 0, 9, 99, 0, 9, 99).fair(), Check.NONE);
     }
@@ -159,6 +165,11 @@ public final class HowToRunTest {
         SecondHome x = track(40, 1, 1, 6, 99, 0, 4, 99);
         x.seconds(600);
         Check.due("of a RACE, not of now", x.unwilling(), 1);
+        SecondHome far = track(9999, 1, 1, 3, 0);
+        far.set(0, 4, 1499);
+        Check.due("7499 yards only after 2000 SECONDS", far.unwilling(), 0);
+        far.set(0, 4, 1502);
+        Check.due("7499 yards as the last SECOND begins", far.unwilling(), 1);
     }
 
     private static void findings() {

@@ -131,6 +131,7 @@ public final class OnTest {
         x.set(1, 4, 1);
         x.line();
         Check.due("passed on the last second from " + start, x.passes(1, 0), due);
+        Check.due("leaders from " + start, x.leaders(), due == Check.NONE ? 1 : 2);
     }
 
     private static void race() {

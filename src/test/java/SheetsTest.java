@@ -86,6 +86,7 @@ public final class SheetsTest {
         Check.due("back in one", x.copy(0, 1, 0, 0, 5), 5);
         row(x, 0, 1, 2, 3, 4, 5, 5);
         Check.due("none", x.copy(0, 6, 1, 4, 0), 0);
+        Check.due("all", x.copy(1, 0, 1, 0, 4), 4);
         int[][] beyond = {{0, 0, 1, 0, 5}, {0, 4, 1, 0, 3}, {0, 0, 1, 2, 3}, {0, -1, 1, 0, 1}, {0, 0, 1, -1, 1},
             {0, 0, 1, 0, -1}, {-1, 0, 1, 0, 1}, {4, 0, 1, 0, 1}, {0, 0, -1, 0, 1}, {0, 0, 4, 0, 1}, {3, 0, 4, 0, 1},
             {0, Integer.MAX_VALUE, 1, 0, 1}, {0, 1, 1, 0, Integer.MAX_VALUE}, {0, 7, 1, 0, 0},

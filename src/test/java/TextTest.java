@@ -88,6 +88,13 @@ public final class TextTest {
         fault("runner pace -5", 12);
         fault("runner pace \u00e9", 12);
         fault("\u0000", 0);
+        fault("law 1\u0000", 5);
+        fault("lawz 1", 0);
+        fault("alaw 1", 0);
+        fault("xaw 1", 0);
+        fault("la` 1", 0);
+        fault("law :", 4);
+        fault("law /", 4);
         fault("runner pace 5 ,", 14);
     }
 
@@ -132,6 +139,7 @@ public final class TextTest {
         fault("runner pace 5 friend 0", 21);
         fault("runner pace 5;runner pace 5 friend 0", -1);
         fault("runner pace 5;runner pace 5 friend 1", 35);
+        fault("runner pace 5 breath 0 start 0", -1);
         fault("runner pace 5 start 199", -1);
         fault("runner pace 5 start 200", 20);
         fault("length 50;runner pace 5 start 50", 30);
