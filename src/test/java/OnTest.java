@@ -118,6 +118,7 @@ public final class OnTest {
         Check.due("never", even.passes(0, 1), Check.NONE);
         last(8000, 2000);
         last(8001, Check.NONE);
+        last(8002, Check.NONE);
     }
 
     /** One keeps at 8000 yards to be passed, as it is a HOLDER at three quarters with LEAST PACE 0. */
