@@ -881,8 +881,9 @@ public final class SecondHome {
             }
         }
 
+        /** Compared without a quotient: one that is cut would make 11 yards three quarters of 15. */
         private int holderWish(int r, int first) {
-            return r == first && yards[r] >= length * 3 / 4 ? least : paces[r];
+            return r == first && 4 * yards[r] >= 3 * length ? least : paces[r];
         }
 
         private int keeperWish(int r) {

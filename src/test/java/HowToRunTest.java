@@ -166,10 +166,12 @@ public final class HowToRunTest {
         x.seconds(600);
         Check.due("of a RACE, not of now", x.unwilling(), 1);
         SecondHome far = track(9999, 1, 1, 3, 0);
-        far.set(0, 4, 1499);
-        Check.due("7499 yards only after 2000 SECONDS", far.unwilling(), 0);
+        far.set(0, 4, 1500);
+        Check.due("7500 yards only after 2000 SECONDS", far.unwilling(), 0);
         far.set(0, 4, 1502);
-        Check.due("7499 yards as the last SECOND begins", far.unwilling(), 1);
+        Check.due("7499 yards as the last SECOND begins, less than 7499 and a quarter", far.unwilling(), 0);
+        far.set(0, 4, 1503);
+        Check.due("7500 yards as the last SECOND begins", far.unwilling(), 1);
     }
 
     private static void findings() {

@@ -98,7 +98,7 @@ final class Model {
                 case 0:
                     return r.pace;
                 case 1:
-                    return isFirst(r) && r.yards >= 3 * length / 4 ? least : wish(r, 0);
+                    return isFirst(r) && r.yards >= 0.75 * length ? least : wish(r, 0);
                 case 2: {
                     int w = wish(r, 0);
                     if (friend != null && friend.home == null && r.yards + w > friend.yards) {

@@ -57,6 +57,14 @@ public final class OnTest {
         just.let(0, 8000);
         just.runner(0, 4, 0);
         Check.due("8000 yards", just.home(0), 2000);
+        SecondHome holder = new SecondHome();
+        holder.let(0, 15);
+        holder.runner(1, 11, 7);
+        Check.due("alone at 11 of 15: out of breath, not holding back", holder.home(0), 2);
+        SecondHome slow = new SecondHome();
+        slow.let(0, 16);
+        slow.runner(1, 12, 8);
+        Check.due("alone at 12 of 16: holding back", slow.home(0), 5);
     }
 
     private static void prizeBy() {

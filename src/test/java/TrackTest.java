@@ -159,14 +159,27 @@ public final class TrackTest {
         Check.due("RUNNER", track(100, 5, 0, 3, 99).wish(0), 3);
         Check.due("HOLDER below three quarters", track(100, 2, 1, 6, 74).wish(0), 6);
         Check.due("HOLDER at three quarters, alone", track(100, 2, 1, 6, 75).wish(0), 2);
-        Check.due("three quarters of 10 are cut, 7", track(10, 2, 1, 6, 7).wish(0), 2);
-        Check.due("6 of 10", track(10, 2, 1, 6, 6).wish(0), 6);
-        Check.due("three quarters of 11 are 8", track(11, 2, 1, 6, 7).wish(0), 6);
+        holdsBackFrom(10, 8);
+        holdsBackFrom(11, 9);
+        holdsBackFrom(12, 9);
+        holdsBackFrom(13, 10);
+        holdsBackFrom(15, 12);
+        holdsBackFrom(200, 150);
+        holdsBackFrom(9999, 7500);
         Check.due("HOLDER not first", track(100, 2, 1, 6, 80, 0, 1, 81).wish(0), 6);
         Check.due("HOLDER not first alone", track(100, 2, 1, 6, 80, 0, 1, 80).wish(0), 6);
         SecondHome x = track(100, 2, 1, 6, 80, 0, 12, 99);
         x.seconds(1);
         Check.due("HOLDER first of those not HOME", x.wish(0), 2);
+    }
+
+    /** Three quarters aren't cut to whole yards, for HOLDERS and for all who are under them. */
+    private static void holdsBackFrom(int length, int yards) {
+        for (int kind : new int[] {1, 4, 5}) {
+            String who = "kind " + kind + " alone on " + length + " at ";
+            Check.due(who + (yards - 1), track(length, 1, kind, 3, yards - 1).wish(0), 3);
+            Check.due(who + yards, track(length, 1, kind, 3, yards).wish(0), 1);
+        }
     }
 
     private static void wishOfKeepersAndHelpers() {
