@@ -129,6 +129,18 @@ public final class HowToRunEdgesTest {
         }
     }
 
+    static void aSetIsToldByBits() {
+        Edge.terms(25, "Sets are told by bits.");
+        int[] due = {1, 2, 4, 8};
+        int[] whose = {0, 1, 7, 4};
+        for (int law = 0; law < 4; law++) {
+            SecondHome x = Edge.many(9);
+            x.let(2, law);
+            Edge.answers(x, whose[law], "race");
+            Edge.answers(x, due[law], "favours", whose[law]);
+        }
+    }
+
     static void favoursWantsAllHome() {
         Edge.promise(25, "BEYOND. NONE: not all are HOME then.");
         refusesNoSuchRunner("favours");
@@ -165,6 +177,12 @@ public final class HowToRunEdgesTest {
         Edge.answers(x, -1, "friend", 0);
         Edge.keeps(() -> Edge.lined(30, 1, 2, Edge.one(RUNNER, 3, 0, -1, 0), Edge.one(RUNNER, 3, 0, -1, 0),
             Edge.one(KEEPER, 12, 999, -1, 0), Edge.one(RUNNER, 1, 0, -1, 0)), 0, "friend", 2);
+    }
+
+    static void friendIsNeverItself() {
+        Edge.terms(26, "a FRIEND (another RUNNER, or -1: none, at first)");
+        Edge.keeps(() -> Edge.lined(40, 1, 1, Edge.one(KEEPER, 12, 999, -1, 0), Edge.one(RUNNER, 5, 99, -1, 0)),
+            1, "friend", 0);
     }
 
     static void friendOfNobodyAndNobody() {
@@ -204,6 +222,13 @@ public final class HowToRunEdgesTest {
         Edge.refuses(() -> Edge.lined(40, 1, 0, Edge.one(0, 4, 0, -1, 0)), Check.NONE, "deal");
         Edge.refuses(() -> Edge.many(9), Check.NONE, "deal");
         Edge.refuses(() -> tooFar(2), Check.NONE, "deal");
+        Edge.refuses(() -> lateOrNot(1, 4), Check.NONE, "deal");
+        Edge.keeps(() -> lateOrNot(4, 1), 1, "race");
+    }
+
+    /** The one far behind is home after 2000 seconds at pace 4, and not with a lesser one. */
+    private static SecondHome lateOrNot(int behind, int ahead) {
+        return Edge.lined(9999, 1, 0, Edge.one(RUNNER, behind, 0, -1, 1999), Edge.one(RUNNER, ahead, 0, -1, 9990));
     }
 
     // ---- promise 28: fair
@@ -240,6 +265,11 @@ public final class HowToRunEdgesTest {
         return Edge.lined(10, 0, 0, Edge.one(RUNNER, 6, 999, -1, 0), Edge.one(RUNNER, 6, 999, -1, 0));
     }
 
+    /** Without breath no pace is faster than 4. */
+    private static SecondHome stroll() {
+        return Edge.lined(10, 0, 0, Edge.one(RUNNER, 6, 0, -1, 0), Edge.one(RUNNER, 6, 0, -1, 0));
+    }
+
     private static boolean isFirst(int pace, int other) {
         int seconds = (10 + pace - 1) / pace;
         int others = (10 + other - 1) / other;
@@ -263,6 +293,7 @@ public final class HowToRunEdgesTest {
         for (int z : new int[] {0, 1, -1, 255, 256, 1000000007, -1000000007, Edge.LEAST, Edge.LEAST + 1, Edge.MOST}) {
             long drawn = z & 0xffffffffL;
             int firsts = 0;
+            int slowFirsts = 0;
             for (int n = 1; n <= 20; n++) {
                 int[] paces = new int[2];
                 for (int r = 0; r < 2; r++) {
@@ -270,8 +301,10 @@ public final class HowToRunEdgesTest {
                     paces[r] = (int) ((drawn >> 8) % 12) + 1;
                 }
                 firsts += isFirst(paces[0], paces[1]) ? 1 : 0;
+                slowFirsts += isFirst(Math.min(4, paces[0]), Math.min(4, paces[1])) ? 1 : 0;
                 Edge.answers(dash(), firsts, "odds", 0, n, z);
                 Edge.answers(dash(), n - firsts, "odds", 1, n, z);
+                Edge.answers(stroll(), slowFirsts, "odds", 0, n, z);
             }
         }
     }
@@ -327,6 +360,18 @@ public final class HowToRunEdgesTest {
         runners[8] = Edge.one(HOLDER, 5, 99, -1, 31);
         runners[0] = Edge.one(RUNNER, 1, 99, -1, 0);
         Edge.keeps(() -> Edge.lined(40, 1, 1, runners), 256, "unwilling");
+    }
+
+    static void unwillingInARaceFromTheStart() {
+        Edge.promise(30, "FIRST alone as some SECOND of a RACE began");
+        SecondHome x = Edge.lined(40, 1, 1, Edge.one(HOLDER, 5, 99, -1, 30));
+        x.seconds(600);
+        Edge.answers(x, 1, "unwilling");
+        SecondHome far = Edge.lined(40, 1, 1, Edge.one(HOLDER, 5, 99, -1, 39));
+        far.set(0, 4, 30);
+        far.set(0, 2, 0);
+        far.let(1, 4);
+        Edge.answers(far, 0, "unwilling");
     }
 
     static void unwillingInTheLastOf2000Seconds() {

@@ -261,6 +261,15 @@ public final class SecondsEdgesTest {
         }
     }
 
+    static void theMiddleOfAnEvenCountIsCut() {
+        Edge.terms(13, "Quotients are cut.");
+        for (int count = 2; count <= 8; count += 2) {
+            SecondHome x = Edge.many(count);
+            x.let(2, 3);
+            Edge.answers(x, count / 2 - 1, "prize");
+        }
+    }
+
     static void prizeIsNobodysWithoutSuchAPlace() {
         Edge.terms(13, "PRIZE: whose PLACE it is; nobody, if there is no such PLACE (without RUNNERS;"
             + " by LAW 1, 2 with one alone).");

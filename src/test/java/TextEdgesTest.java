@@ -226,6 +226,12 @@ public final class TextEdgesTest {
         faults(7, "length 2147483648");
         faults(7, "length " + "9".repeat(113));
         reads(1, "law 0");
+        for (String other : new String[] {";", ":", "z", "length", "pace"}) {
+            faults(7, "length " + other);
+            faults(12, "runner pace " + other);
+            faults(21, "runner pace 1 breath " + other);
+            faults(20, "runner pace 1 start " + other);
+        }
         for (int other : new int[] {'0' - 1, '9' + 1, '0' + 128, '-', '+', '.'}) {
             faults(4, "law " + (char) other);
             faults(5, "law 1" + (char) other);
@@ -285,6 +291,8 @@ public final class TextEdgesTest {
             }
             faults(0, name + "s pace 1");
             faults(0, name.substring(1) + " pace 1");
+            faults(0, "x" + name.substring(1) + " pace 1");
+            faults(0, name.substring(0, name.length() - 1) + "x pace 1");
             faults(0, name.substring(0, name.length() - 1) + " pace 1");
         }
         faults(0, "pace 1");
@@ -348,6 +356,32 @@ public final class TextEdgesTest {
         faults(() -> Edge.many(1), 20, "runner pace 1 start 200");
         faults(22, "runner pace 1 start 1 start 1");
         faults(36, "runner pace 1;runner pace 1 start 1 friend 0");
+    }
+
+    /** That it stands there at once is a reading: the document tells it of set() alone that YARDS stay. */
+    static void aNewOneIsSetAtItsStart() {
+        Edge.terms(33, "START, 0 to LENGTH less 1, is where it is set");
+        SecondHome x = new SecondHome();
+        Edge.due("items", Check.text(x, "runner pace 1 start 0;runner pace 1 start 199;runner pace 1"), 3);
+        int[] yards = {0, 199, 0};
+        for (int r = 0; r < yards.length; r++) {
+            Edge.answers(x, yards[r], "of", r, 5);
+        }
+    }
+
+    static void anotherWordIsAtFault() {
+        Edge.terms(33, "another WORD");
+        String[] words = {"length 10", "least 1", "law 1"};
+        for (String word : words) {
+            faults(0, "x" + word);
+            faults(0, "x" + word.substring(1));
+            faults(0, word.substring(1));
+            faults(0, word.replace(" ", "x "));
+        }
+        faults(7, "runner face 1");
+        faults(14, "runner pace 1 xreath 1");
+        faults(14, "runner pace 1 xtart 1");
+        faults(28, "runner pace 1;runner pace 1 xriend 0");
     }
 
     static void lengthOfATextIs10To9999() {

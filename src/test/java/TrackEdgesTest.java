@@ -378,6 +378,8 @@ public final class TrackEdgesTest {
                 Edge.one(HOLDER, 6, 0, -1, 30)), o[1], "wish", 2);
         }
         Edge.answers(Edge.lined(40, 1, 1, Edge.one(HOLDER, 6, 0, -1, 30)), 1, "wish", 0);
+        Edge.answers(Edge.lined(40, 1, 1, Edge.one(SPRINTER, 6, 0, -1, 0)), 6, "wish", 0);
+        Edge.answers(Edge.lined(10, 1, 1, Edge.one(RUNNER, 12, 8, -1, 0)), 1, "leaders");
     }
 
     static void aKeeperDoesNotComePastItsFriend() {
