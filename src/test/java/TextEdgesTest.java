@@ -423,6 +423,41 @@ public final class TextEdgesTest {
         faults(() -> Edge.many(1), 4, "law 9999");
     }
 
+    static void aNumberThatMayNotBe() {
+        Edge.terms(33, "a NUMBER that may not be");
+        String[] wrong = {"length 9", "least 6", "law 4", "runner pace 0", "runner pace 13",
+            "runner pace 1 breath 1000", "runner pace 1 friend 0", "runner pace 1 start 200"};
+        for (String text : wrong) {
+            faults(text.lastIndexOf(' ') + 1, text);
+            faults(text.lastIndexOf(' ') + 1, text + ";law 1");
+            faults(text.lastIndexOf(' ') + 4, "   " + text);
+        }
+    }
+
+    static void aByteThatBeginsNoToken() {
+        Edge.terms(33, "a byte that begins no TOKEN");
+        for (int b = 0; b < 256; b++) {
+            boolean begins = b == ' ' || b == ';' || b >= '0' && b <= '9' || b >= 'a' && b <= 'z';
+            if (!begins) {
+                reads(-1, "" + (char) b);
+                reads(-6, "law 1" + (char) b);
+                reads(-5, "law " + (char) b + "1");
+            }
+        }
+        faults(119, "law 1" + " ".repeat(114) + "!");
+    }
+
+    static void lengthWhileThereIsARunner() {
+        Edge.terms(33, "length while there is a RUNNER: its own");
+        faults(() -> Edge.many(1), 0, "length 10");
+        faults(() -> Edge.many(1), 8, "least 0;length 9");
+        faults(() -> Edge.many(1), 0, "length");
+        faults(15, "runner pace 1; length 10");
+        SecondHome x = Edge.many(1);
+        Edge.due("text", Check.text(x, "length 300"), -1);
+        Edge.answers(x, 200, "now", 1);
+    }
+
     static void theFaultOfA10thIsItsName() {
         Edge.terms(33, "the name of a KIND for a 10th");
         faults(() -> Edge.many(9), 0, "runner pace 1");

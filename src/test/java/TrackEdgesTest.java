@@ -155,6 +155,16 @@ public final class TrackEdgesTest {
         }
     }
 
+    static void yardsAre0AtFirst() {
+        Edge.terms(3, "at so many YARDS (0 at first;");
+        SecondHome x = Edge.many(1);
+        x.seconds(3);
+        Edge.answers(x, 1, "runner", 0, 12, 0);
+        Edge.answers(x, 12, "of", 0, 5);
+        Edge.answers(x, 0, "of", 1, 5);
+        Edge.answers(x, 12, "count", 2);
+    }
+
     static void aNewOneHasNoFriendAndNoPoints() {
         Edge.terms(3, "a FRIEND (another RUNNER, or -1: none, at first), POINTS (0 at first)");
         SecondHome x = Edge.many(1);
