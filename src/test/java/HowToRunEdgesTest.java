@@ -97,6 +97,8 @@ public final class HowToRunEdgesTest {
         Edge.keeps(() -> ahead(10, 5), 5, "start", 0);
         Edge.refuses(() -> ahead(10, 6), Check.NONE, "start", 0);
         Edge.keeps(() -> ahead(11, 7), 10, "start", 0);
+        Edge.refuses(() -> ahead(12, 11), Check.NONE, "start", 0);
+        Edge.refuses(() -> ahead(199, 196), Check.NONE, "start", 0);
         Edge.keeps(() -> ahead(200, 195), 195, "start", 0);
         Edge.refuses(() -> ahead(200, 199), Check.NONE, "start", 0);
         Edge.keeps(() -> ahead(201, 200), 200, "start", 0);
@@ -215,6 +217,13 @@ public final class HowToRunEdgesTest {
             Edge.one(0, 3, 0, -1, 0)), 2, "deal");
     }
 
+    /** By law 3 the places 3 0 1 2 give it to 0, and 0 1 2 3 to 1, who is none of the two. */
+    static void dealMayGiveItToAThirdOne() {
+        Edge.promise(27, "Two RUNNERS of whom, if they changed PACES, another one than now would have the PRIZE of a RACE:");
+        Edge.keeps(() -> Edge.lined(60, 1, 3, Edge.one(0, 4, 0, -1, 0), Edge.one(0, 4, 0, -1, 0),
+            Edge.one(0, 4, 0, -1, 0), Edge.one(0, 12, 999, -1, 0)), 3, "deal");
+    }
+
     static void dealWantsOneWhoHasItAndTwo() {
         Edge.promise(27, "NONE: nobody has it now, or no two.");
         Edge.refuses(SecondHome::new, Check.NONE, "deal");
@@ -224,6 +233,7 @@ public final class HowToRunEdgesTest {
         Edge.refuses(() -> tooFar(2), Check.NONE, "deal");
         Edge.refuses(() -> lateOrNot(1, 4), Check.NONE, "deal");
         Edge.keeps(() -> lateOrNot(4, 1), 1, "race");
+        Edge.refuses(() -> lateOrNot(4, 1), Check.NONE, "deal");
     }
 
     /** The one far behind is home after 2000 seconds at pace 4, and not with a lesser one. */
@@ -288,7 +298,7 @@ public final class HowToRunEdgesTest {
     }
 
     static void oddsDrawsGoRound() {
-        Edge.promise(29, "each makes it z times 1103515245 and 12345 more, an int that goes round,"
+        Edge.promise(29, "By draws (z told: each makes it z times 1103515245 and 12345 more, an int that goes round,"
             + " and is the rest of z >>> 8 by 12");
         for (int z : new int[] {0, 1, -1, 255, 256, 1000000007, -1000000007, Edge.LEAST, Edge.LEAST + 1, Edge.MOST}) {
             long drawn = z & 0xffffffffL;
@@ -350,7 +360,7 @@ public final class HowToRunEdgesTest {
     }
 
     static void unwillingAsASet() {
-        Edge.promise(30, "Who didn't want to win");
+        Edge.promise(30, "Who didn't want to win: those who, FIRST alone as some SECOND of a RACE began");
         Edge.keeps(SecondHome::new, 0, "unwilling");
         Edge.keeps(() -> Edge.many(9), 0, "unwilling");
         int[][] runners = new int[9][];

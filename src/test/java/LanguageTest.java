@@ -1,9 +1,14 @@
+import java.lang.reflect.Field;
+import java.lang.reflect.Method;
+import java.lang.reflect.Modifier;
 import java.nio.file.Files;
 import java.nio.file.Path;
+import java.util.Set;
+import java.util.TreeSet;
 import java.util.regex.Matcher;
 import java.util.regex.Pattern;
 
-/** The words and signs that LANGUAGE.md rules out, and its lengths, looked for in the source. */
+/** The words and signs that LANGUAGE.md rules out, and its lengths and counts, looked for in the source and the classes. */
 public final class LanguageTest {
     private static final String[] RULED_OUT = {
         "\\b(throw|throws|try|catch|finally|synchronized|assert|volatile|transient|native)\\b",
@@ -11,9 +16,8 @@ public final class LanguageTest {
         "\\b(hashCode|toString|System\\.(?!arraycopy)|Thread|Object|Exception|Error)\\b", "Exact\\b",
         "\\bstatic\\s*\\{", "@(?!Override)\\w+", "\\bprotected\\b",
     };
-    private static final String FACE = "let runner of set turn as wish line seconds now place prize score leads on home"
-        + " prizeBy leaders passes race pace kind start favours friend deal fair odds unwilling feed wipe text sheet"
-        + " write copy lays film read image undo tear count status";
+    private static final Set<Class<?>> CONSTANTS = Set.of(int.class, long.class, boolean.class, char.class, String.class,
+        int[].class, long[].class, char[].class, byte[].class);
 
     public static void main(String[] args) throws Exception {
         String source = Files.readString(Path.of("src/main/java/SecondHome.java"));
@@ -23,22 +27,45 @@ public final class LanguageTest {
             Matcher m = Pattern.compile(words).matcher(code);
             Check.due(words + (m.find() ? " stands there: " + m.group() : ""), m.reset().find() ? 1 : 0, 0);
         }
-        publicMembers(code);
+        classes();
         methodLengths(source);
         Check.end();
     }
 
-    private static void publicMembers(String code) {
-        Matcher m = Pattern.compile("public (int|long) (\\w+)\\(").matcher(code);
-        StringBuilder names = new StringBuilder();
-        while (m.find()) {
-            names.append(names.length() == 0 ? "" : " ").append(m.group(2));
+    /** Rules 1, 2, 5 and 11, as far as the compiled classes tell; FaceTest compares the face itself. */
+    private static void classes() {
+        Class<?>[] inside = SecondHome.class.getDeclaredClasses();
+        Check.due("classes of the file", inside.length + 1 > 12 ? inside.length + 1 : 0, 0);
+        Set<String> face = new TreeSet<>();
+        for (Method m : SecondHome.class.getDeclaredMethods()) {
+            if (Modifier.isPublic(m.getModifiers())) {
+                face.add(m.getName());
+            }
         }
-        Check.due("public methods are " + names, names.toString().equals(FACE) ? 1 : 0, 1);
-        Matcher all = Pattern.compile("\\bpublic\\b").matcher(code);
-        Check.due("how often public stands", all.results().count(), FACE.split(" ").length + 2);
-        Matcher inner = Pattern.compile("private [\\w\\[\\]]+ (" + FACE.replace(' ', '|') + ")\\(").matcher(code);
-        Check.due("private methods with public names", inner.find() ? 1 : 0, 0);
+        members(SecondHome.class, face);
+        for (Class<?> c : inside) {
+            Check.due(c + " is static", Modifier.isStatic(c.getModifiers()) ? 1 : 0, 1);
+            Check.due(c + " is not seen", Modifier.isPublic(c.getModifiers()) ? 1 : 0, 0);
+            Check.due(c + " has no class inside", c.getDeclaredClasses().length, 0);
+            members(c, face);
+        }
+    }
+
+    private static void members(Class<?> c, Set<String> face) {
+        int own = 0;
+        for (Field f : c.getDeclaredFields()) {
+            boolean isStatic = Modifier.isStatic(f.getModifiers());
+            own += isStatic ? 0 : 1;
+            boolean fine = Modifier.isFinal(f.getModifiers()) && CONSTANTS.contains(f.getType());
+            Check.due(f + " is a constant", isStatic && !fine ? 1 : 0, 0);
+        }
+        Check.due("fields of " + c, own > 20 ? own : 0, 0);
+        for (Method m : c.getDeclaredMethods()) {
+            int parameters = m.getParameterCount();
+            Check.due("parameters of " + m, parameters > 7 ? parameters : 0, 0);
+            boolean isPrivate = Modifier.isPrivate(m.getModifiers());
+            Check.due(m + " bears a public name", isPrivate && face.contains(m.getName()) ? 1 : 0, 0);
+        }
     }
 
     private static void methodLengths(String source) {

@@ -107,7 +107,7 @@ public final class SheetsEdgesTest {
         for (int i : new int[] {Edge.LEAST, -1, 0, 3, 40, Edge.MOST}) {
             Edge.refuses(Edge::some, Check.MISSING, "write", 2, i, 1);
         }
-        for (int i : new int[] {Edge.LEAST, -1, 3, 40, Edge.MOST}) {
+        for (int i : new int[] {Edge.LEAST, -1, 3, 4, 39, 40, Edge.MOST}) {
             for (int s : new int[] {0, 1, 3}) {
                 Edge.refuses(Edge::some, Check.BEYOND, "write", s, i, 1);
             }

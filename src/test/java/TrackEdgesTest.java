@@ -199,7 +199,8 @@ public final class TrackEdgesTest {
     // ---- promise 4: of
 
     static void ofTellsFrom0To8() {
-        Edge.promise(4, "7 SECOND at which it is HOME (-1: it isn't), 8 PLACE. BEYOND.");
+        Edge.promise(4, "Of a RUNNER: what 0 KIND, 1 PACE, 2 BREATH, 3 FRIEND (-1), 4 START, 5 YARDS, 6 POINTS,"
+            + " 7 SECOND at which it is HOME (-1: it isn't), 8 PLACE. BEYOND.");
         SecondHome x = Edge.lined(20, 1, 1, Edge.one(KEEPER, 5, 50, 1, 2), Edge.one(RUNNER, 4, 7, -1, 13));
         x.seconds(2);
         int[][] told = {{KEEPER, 5, 48, 1, 2, 12, 0, -1, 1}, {RUNNER, 4, 7, -1, 13, 21, 0, 2, 0}};
@@ -216,10 +217,49 @@ public final class TrackEdgesTest {
         Edge.answers(Edge.many(9), 8, "of", 8, 8);
     }
 
+    /** Runner 3 is told by nine numbers of which no two are the same, so that none can stand for another one. */
+    private static SecondHome scored() {
+        SecondHome x = Edge.lined(40, 1, 1, Edge.one(RUNNER, 4, 0, -1, 30), Edge.one(RUNNER, 4, 0, -1, 0),
+            Edge.one(RUNNER, 4, 0, -1, 4), Edge.one(RUNNER, 4, 7, 2, 20));
+        x.seconds(600);
+        x.score();
+        return x;
+    }
+
+    static void ofTellsNineThings() {
+        Edge.promise(4, "what 0 KIND, 1 PACE, 2 BREATH, 3 FRIEND (-1), 4 START, 5 YARDS, 6 POINTS");
+        int[] told = {RUNNER, 4, 7, 2, 20, 40, 12, 5, 1};
+        for (int what = 0; what < told.length; what++) {
+            Edge.keeps(TrackEdgesTest::scored, told[what], "of", 3, what);
+        }
+    }
+
+    static void homeOrNot() {
+        Edge.terms(4, "HOME or not (at which SECOND).");
+        SecondHome x = Edge.lined(10, 1, 1, Edge.one(RUNNER, 4, 0, -1, 1), Edge.one(RUNNER, 4, 0, -1, 0));
+        int[][] homes = {{-1, -1}, {-1, -1}, {-1, -1}, {3, 3}};
+        for (int[] home : homes) {
+            Edge.answers(x, home[0], "of", 0, 7);
+            Edge.answers(x, home[1], "of", 1, 7);
+            x.seconds(1);
+        }
+        x.runner(RUNNER, 4, 0);
+        x.seconds(2);
+        Edge.answers(x, -1, "of", 2, 7);
+        x.seconds(1);
+        Edge.answers(x, 3, "of", 1, 7);
+        Edge.answers(x, 6, "of", 2, 7);
+        x.line();
+        for (int r = 0; r < 3; r++) {
+            Edge.answers(x, -1, "of", r, 7);
+        }
+    }
+
     // ---- promise 5: set
 
     static void setKnowsFour() {
-        Edge.promise(5, "PACE (what 1), BREATH (2), FRIEND (3; -1 none), START (4; YARDS stay) of a RUNNER becomes v");
+        Edge.promise(5, "PACE (what 1), BREATH (2), FRIEND (3; -1 none), START (4; YARDS stay) of a RUNNER becomes v"
+            + ": what it was.");
         for (int what : new int[] {Edge.LEAST, -1, 0, 5, 6, 7, 8, Edge.MOST}) {
             Edge.refuses(Edge::some, Check.BEYOND, "set", 0, what, 1);
         }
@@ -228,6 +268,22 @@ public final class TrackEdgesTest {
         Edge.answers(x, 0, "set", 1, 4, 39);
         Edge.answers(x, yards, "of", 1, 5);
         Edge.answers(x, 39, "of", 1, 4);
+    }
+
+    static void setChangesThatAlone() {
+        Edge.promise(5, "of a RUNNER becomes v: what it was.");
+        int[] told = {RUNNER, 4, 7, 2, 20, 40, 12, 5, 1};
+        int[] others = {0, 9, 999, 0, 39};
+        for (int what = 1; what <= 4; what++) {
+            SecondHome x = scored();
+            String before = Check.picture(x);
+            Edge.answers(x, told[what], "set", 3, what, others[what]);
+            for (int w = 0; w < told.length; w++) {
+                Edge.answers(x, w == what ? others[w] : told[w], "of", 3, w);
+            }
+            Edge.answers(x, others[what], "set", 3, what, told[what]);
+            Edge.same("set " + what + " and back", Check.picture(x), before);
+        }
     }
 
     static void paceIs1To12() {
@@ -303,6 +359,15 @@ public final class TrackEdgesTest {
             Edge.refuses(Edge::some, Check.BEYOND, "turn", r, 0);
         }
         Edge.refuses(SecondHome::new, Check.BEYOND, "turn", 0, 0);
+        SecondHome other = scored();
+        String before = Check.picture(other);
+        Edge.answers(other, RUNNER, "turn", 3, HELPER);
+        int[] told = {HELPER, 4, 7, 2, 20, 40, 12, 5, 1};
+        for (int what = 0; what < told.length; what++) {
+            Edge.answers(other, told[what], "of", 3, what);
+        }
+        Edge.answers(other, HELPER, "turn", 3, RUNNER);
+        Edge.same("turn and back", Check.picture(other), before);
     }
 
     // ---- promise 7: as
@@ -320,7 +385,8 @@ public final class TrackEdgesTest {
     }
 
     static void asAsksForBothAheadOfTheKind() {
-        Edge.promise(7, "BEYOND: no such one, kind. KIND: it isn't of that kind, nor of one under it.");
+        Edge.promise(7, "A RUNNER as one of a kind: PACE."
+            + " BEYOND: no such one, kind. KIND: it isn't of that kind, nor of one under it.");
         for (int wrong : new int[] {Edge.LEAST, -1, 6, Edge.MOST}) {
             Edge.refuses(Edge::some, Check.BEYOND, "as", 0, wrong);
             Edge.refuses(Edge::some, Check.BEYOND, "as", wrong, 0);
@@ -350,6 +416,23 @@ public final class TrackEdgesTest {
         x.line();
         Edge.answers(x, 1, "wish", 0);
         Edge.keeps(Edge::some, 5, "wish", 1);
+    }
+
+    static void aWishIsWhatItWouldRun() {
+        Edge.terms(8, "WISH of a RUNNER: how many yards it would run in this SECOND");
+        int[] wishes = {6, 6, 3, 3, 12, 4};
+        for (int kind = 0; kind < wishes.length; kind++) {
+            int of = kind;
+            SecondHome x = Edge.lined(100, 2, 1, Edge.one(of, 6, 99, 1, 70), Edge.one(RUNNER, 1, 99, -1, 73));
+            Edge.keeps(() -> Edge.lined(100, 2, 1, Edge.one(of, 6, 99, 1, 70), Edge.one(RUNNER, 1, 99, -1, 73)),
+                wishes[kind], "wish", 0);
+            x.seconds(1);
+            Edge.answers(x, 70 + wishes[kind], "of", 0, 5);
+        }
+        SecondHome breathless = Edge.lined(100, 2, 1, Edge.one(RUNNER, 6, 0, -1, 0));
+        Edge.answers(breathless, 6, "wish", 0);
+        SecondHome slow = Edge.lined(100, 5, 1, Edge.one(RUNNER, 1, 0, -1, 0));
+        Edge.answers(slow, 1, "wish", 0);
     }
 
     static void aRunnerWishesItsPace() {
@@ -470,6 +553,25 @@ public final class TrackEdgesTest {
         x.seconds(1);
         Edge.answers(x, 78, "of", 0, 5);
         Edge.answers(x, 6, "wish", 0);
+    }
+
+    /** From the line on, so that neither START nor the first SECOND can stand for what is now. */
+    static void aSprinterGoesByWhatIsNow() {
+        Edge.terms(8, "if its YARDS are LENGTH less 40 or more and it isn't the first");
+        SecondHome behind = Edge.lined(100, 1, 1, Edge.one(SPRINTER, 4, 99, -1, 52), Edge.one(RUNNER, 4, 0, -1, 58));
+        int[] wishes = {4, 4, 8, 8};
+        int[] yards = {52, 56, 60, 68};
+        for (int second = 0; second < wishes.length; second++) {
+            Edge.answers(behind, yards[second], "of", 0, 5);
+            Edge.answers(behind, wishes[second], "wish", 0);
+            behind.seconds(1);
+        }
+        SecondHome first = Edge.lined(100, 1, 1, Edge.one(SPRINTER, 4, 99, -1, 59), Edge.one(RUNNER, 4, 0, -1, 58));
+        for (int second = 0; second < 4; second++) {
+            Edge.answers(first, 59 + 4 * second, "of", 0, 5);
+            Edge.answers(first, 4, "wish", 0);
+            first.seconds(1);
+        }
     }
 
     static void anIdlerWishesAtMostLeastPaceAnd2() {
