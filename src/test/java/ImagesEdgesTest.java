@@ -36,6 +36,22 @@ public final class ImagesEdgesTest {
         Edge.holds(x, 0, 300);
     }
 
+    /** But for what undo() then becomes, all is as without the call, the tape and the sheets, too. */
+    static void anImageChangesNothingElse() {
+        Edge.promise(40, "All that section 1 tells (THE TAPE not) is kept: 1.");
+        SecondHome x = torn();
+        SecondHome like = torn();
+        Edge.answers(x, 1, "image");
+        Edge.answers(x, 1, "tear");
+        Edge.same("kept and torn", Edge.whole(x), Edge.whole(like));
+        SecondHome kept = Edge.some();
+        kept.image();
+        Edge.answers(kept, 26, "count", 1);
+        kept.wipe();
+        Edge.answers(kept, 3, "undo");
+        Edge.answers(kept, 0, "count", 1);
+    }
+
     static void anImageOfNothingAndOfAFullTrack() {
         Edge.promise(40, "is kept: 1.");
         SecondHome empty = new SecondHome();
